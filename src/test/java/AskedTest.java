@@ -6,6 +6,7 @@ public final class AskedTest {
         behind();
         behindIsAsRounds();
         within();
+        withinTwenty();
         nothingChanges();
         due.end();
     }
@@ -64,6 +65,28 @@ public final class AskedTest {
         pulled.lie(2, 1, -2000);
         due.is("within at first", pulled.within(10), 0);
         due.is("never closer", pulled.within(9), LiarClocks.NONE);
+    }
+
+    private static void withinTwenty() {
+        LiarClocks x = Due.of("k0 100;k0 100;k0 100;k0 100;l3;f1;");
+        x.stand(0);
+        for (int k = 0; k < 263; k++) {
+            x.tick(20);
+        }
+        // 0 joins where it stood, for all others lie at that time and tell its own AIM.
+        x.liar(1, true);
+        x.liar(2, true);
+        due.is("join(0)", x.join(0), 0);
+        x.liar(1, false);
+        x.liar(2, false);
+        // Each round halves what they are apart, and 526000 is more than 2 to the 19.
+        due.is("APART", x.told(7), 526000);
+        due.is("behind(19)", x.behind(19), 2);
+        due.is("behind(20)", x.behind(20), 1);
+        due.is("within(2)", x.within(2), 19);
+        due.is("within(1)", x.within(1), 20);
+        due.is("within(0)", x.within(0), LiarClocks.NONE);
+        due.is("within(9999)", x.within(9999), 6);
     }
 
     private static void nothingChanges() {

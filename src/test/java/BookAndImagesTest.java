@@ -9,6 +9,7 @@ public final class BookAndImagesTest {
         seeds();
         keeping();
         goingBack();
+        alarmsGoBack();
         due.end();
     }
 
@@ -93,6 +94,27 @@ public final class BookAndImagesTest {
         due.is("0 was not kept", x.goBack(0), LiarClocks.NOT);
         due.is("keep(0)", x.keep(0), 1);
         due.is("no clocks, kept", new LiarClocks().keep(0), 1);
+    }
+
+    private static void alarmsGoBack() {
+        LiarClocks x = Due.of("k100 100;k160 101;");
+        x.alarm(1, 500);
+        x.keep(0);
+        Due.feed(x, "k");
+        x.clocks();
+        x.goBack(0);
+        x.alarm(0, 700);
+        x.undo(1);
+        x.alarm(1, 800);
+        x.keep(1);
+        x.goBack(0);
+        x.alarm(0, 900);
+        due.is("its clock", x.alarmAt(1, 0), 0);
+        due.is("its value", x.alarmAt(1, 1), 900);
+        x.goBack(1);
+        due.is("its clock in the image", x.alarmAt(1, 0), 1);
+        due.is("its value in the image", x.alarmAt(1, 1), 800);
+        due.is("the first alarm", x.alarmAt(0, 1), 500);
     }
 
     private static void goingBack() {

@@ -10,6 +10,8 @@ public final class ClocksTest {
         faults();
         faultChangesNothing();
         textBeginsAnew();
+        textBehindAsking();
+        textBehindLongerText();
         toldNumbers();
         mayLie();
         worst();
@@ -209,6 +211,46 @@ public final class ClocksTest {
         due.is("no clocks then", x.told(0), 0);
     }
 
+    private static void textBehindAsking() {
+        LiarClocks x = Due.of("k100 100;k200 90;k300 100;l2;f1;s5;");
+        x.lie(0, 1, 5);
+        x.error(0, 1, 5);
+        x.alarm(0, 5);
+        x.tick(4);
+        x.stand(0);
+        x.stand(2);
+        x.liar(1, true);
+        // Asking must leave nothing behind that a new text could take over.
+        x.behind(3);
+        x.within(3);
+        Due.feed(x, "f0;s9;k7 100;k9 100;k50 100;");
+        due.is("clocks()", x.clocks(), 3);
+        int[] want = {3, 0, 9, 0, 0, 0, 7, 43, 0, 0, 0, 0, 0, 0, -1, 0};
+        for (int what = 0; what < want.length; what++) {
+            due.is("behind asking: told(" + what + ")", x.told(what), want[what]);
+        }
+        due.is("no lie", x.heard(0, 1, 2), 9999);
+        due.is("no error", x.heard(0, 1, 1), 20);
+        due.is("asked of the new ones", x.behind(1), 0);
+        Due.feed(x, "s8;f1;k1 100;k5 100;");
+        due.is("words once a text", x.clocks(), 2);
+        due.is("nothing ahead of 0", x.clock(0, 2), 100000);
+        due.is("nothing ahead of 1", x.clock(1, 2), 100000);
+    }
+
+    private static void textBehindLongerText() {
+        LiarClocks x = Due.of("k100 100;");
+        Due.feed(x, "k1 10");
+        due.is("letters of the text ahead are gone", x.clocks(), -12);
+        due.is("at the number", x.fault(), 3);
+        Due.feed(x, "k100 100");
+        due.is("the end is the end", x.clocks(), -11);
+        due.is("at the end", x.fault(), 8);
+        Due.feed(x, "k10 ");
+        due.is("the end is the end", x.clocks(), -11);
+        due.is("at the end", x.fault(), 4);
+    }
+
     private static void toldNumbers() {
         LiarClocks x = Due.of("k100 100;k160 101;k220 99;k400 100;l3;f1;");
         x.feed('z');
@@ -271,6 +313,10 @@ public final class ClocksTest {
         due.is("no true one", y.told(8), LiarClocks.NONE);
         LiarClocks z = Due.of("k0 100;k9 100;k50 100;k51 100;l2;l3;f2;");
         due.is("all struck: aims stay", z.told(8), 9);
+        LiarClocks first = Due.of("k100 100;k160 101;k220 99;k400 100;l3;f1;");
+        first.error(2, 0, 20);
+        // 0 comes to 200 at most (160, 240), the others to 190; all come to 130 at least.
+        due.is("WORST, the first is the highest", first.told(8), 70);
         LiarClocks one = Due.of("k0 100;k9 100;k50 100;k51 100;l2;l3;f1;");
         due.is("two lie, one is struck", one.told(8), 1000000);
     }

@@ -19,6 +19,7 @@ public final class DeedsTest {
         driftingRefused();
         undoing();
         undoingRing();
+        eightClocks();
         due.end();
     }
 
@@ -194,6 +195,9 @@ public final class DeedsTest {
         x.undo(1);
         due.is("undone: it stands", x.clock(0, 5), 1);
         due.is("undone: its value", x.clock(0, 0), 0);
+        LiarClocks later = Due.of("k0 100;k100 100;k206 100;");
+        later.stand(2);
+        due.is("join(2) hears the first", later.join(2), 50);
         x.stand(1);
         // 1 stands: 102 and 152 are heard.
         due.is("join(0) beside one that stands", x.join(0), 127);
@@ -360,6 +364,28 @@ public final class DeedsTest {
         due.is("the value", x.clock(0, 0), 0);
         due.is("no more", x.undo(1), LiarClocks.NOT);
         due.is("the seed stays", x.seed(0), 5);
+    }
+
+    private static void eightClocks() {
+        LiarClocks x = Due.of("k0 90;k100 91;k200 92;k300 93;k400 94;k500 95;k600 96;k700 97;f3;s80;");
+        due.is("all hear alike", x.behind(1), 0);
+        due.is("within", x.within(0), 1);
+        due.is("WORST", x.told(8), 0);
+        x.liar(7, true);
+        due.is("the last lies: FARTHEST", x.heard(7, 0, 4), 19998);
+        due.is("its rank", x.heard(7, 0, 3), 1);
+        // 0 hears 0, 0, 100 .. 600 and aims at 250, 6 hears 0 .. 500, 600, 600 and aims at 350.
+        due.is("round()", x.round(), 100);
+        due.is("tick(1)", x.tick(1), 0);
+        due.is("the first", x.clock(0, 0), 170);
+        due.is("the last", x.clock(7, 0), 797);
+        due.is("stand(7)", x.stand(7), 1);
+        // It hears the seven aims 340, 341, 342, 393, 444, 445, 446 and takes the fourth.
+        due.is("join(7)", x.join(7), 393);
+        due.is("alarm", x.alarm(7, 400), 0);
+        due.is("it rings", x.tick(1), 1);
+        due.is("drift", x.drift(16) >= 0 ? 1 : 0, 1);
+        due.is("undone", x.undo(16), 2);
     }
 
     private static void undoingRing() {

@@ -493,18 +493,17 @@ public final class LiarClocks {
         }
 
         private int apart() {
-            if (trueSet() == 0) {
-                return NONE;
-            }
-            int least = Integer.MAX_VALUE;
-            int most = Integer.MIN_VALUE;
+            int seen = 0;
+            int least = 0;
+            int most = 0;
             for (int c = 0; c < count; c++) {
                 if (isTrue(c)) {
-                    least = Math.min(least, aim(c));
-                    most = Math.max(most, aim(c));
+                    least = seen == 0 ? aim(c) : Math.min(least, aim(c));
+                    most = seen == 0 ? aim(c) : Math.max(most, aim(c));
+                    seen++;
                 }
             }
-            return most - least;
+            return seen == 0 ? NONE : most - least;
         }
 
         private int mayLie() {
@@ -898,7 +897,7 @@ public final class LiarClocks {
         private int current;
 
         private int next(int n) {
-            current = (int) (current * 1103515245L + 12345L & Integer.MAX_VALUE);
+            current = (int) ((current * 1103515245L + 12345L) % 2147483648L);
             return n > 0 ? current / 65536 % n : 0;
         }
     }

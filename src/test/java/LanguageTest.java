@@ -74,7 +74,7 @@ public final class LanguageTest {
         String code = source.replaceAll("(?s)/\\*.*?\\*/", " ").replaceAll("//[^\n]*", " ");
         String[] not = {"\\bthrow\\b", "\\bthrows\\b", "\\btry\\b", "\\bcatch\\b", "\\bsynchronized\\b", "\\bassert\\b",
             "\\bpackage\\b", "->", "::", "Exact\\b", "\\bObject\\b", "\\bRandom\\b", "\\bSystem\\.(?!arraycopy\\b)", "\\bThread\\b",
-            "\\bdouble\\b", "\\bfloat\\b", "\\bvar\\b", "\\bhashCode\\b", "\\bequals\\b", "\\btoString\\b", "@"};
+            "\\bdouble\\b", "\\bfloat\\b", "\\bvar\\b", "\\bhashCode\\b", "\\bequals\\b", "\\btoString\\b", "@", "_VALUE\\b(?<!MOST_ALARM_VALUE)"};
         for (String word : not) {
             due.holds("not in the source: " + word, !Pattern.compile(word).matcher(code).find());
         }

@@ -38,37 +38,38 @@ public final class AskedBoundsTest {
     }
 
     private static void whatIsAsked() {
-        run("told: 0 .. 15", "k10 100;k20 100;k40 100;k70 100;l1;f1;s7;", 4).go("stand 2 = 1", "alarm 0 10 = 0", "alarm 1 99 = 1",
-            "tick 2 = 2", "write 0 1 = 1", "feed 107 = 1", "feed 49 = 2")
-            .go("told -1 = OUTSIDE", "told 0 = 4", "told 1 = 1", "told 2 = 7", "told 3 = 2", "told 4 = 2", "told 5 = 4", "told 6 = 9",
-                "told 7 = 60", "told 8 = 60", "told 9 = 0", "told 10 = 2", "told 11 = 3", "told 12 = 2", "told 13 = 1", "told 14 = 0",
-                "told 15 = 4", "told 16 = OUTSIDE", "told LEAST = OUTSIDE", "told MOST = OUTSIDE");
+        run("told: 0 .. 15", "k10 100;k20 100;k40 100;k70 100;l1;f1;s7;", 4).go("stand 2 = 1", "alarm 0 10 = 0",
+            "alarm 1 99 = 1", "tick 2 = 2", "write 0 1 = 1", "feed 107 = 1", "feed 49 = 2").go("told -1 = OUTSIDE",
+            "told 0 = 4", "told 1 = 1", "told 2 = 7", "told 3 = 2", "told 4 = 2", "told 5 = 4", "told 6 = 9", "told 7 = 60",
+            "told 8 = 60", "told 9 = 0", "told 10 = 2", "told 11 = 3", "told 12 = 2", "told 13 = 1", "told 14 = 0",
+            "told 15 = 4", "told 16 = OUTSIDE", "told LEAST = OUTSIDE", "told MOST = OUTSIDE");
     }
 
     private static void whatIsAskedOfAClock() {
-        run("clock: 0 .. 6", "k10 100;k20 95;l1;", 2).go("lie 1 0 8", "round = 0", "clock 0 -1 = OUTSIDE", "clock 0 0 = 10", "clock 0 1 = 100",
-            "clock 0 2 = 100004", "clock 0 3 = 100014", "clock 0 4 = 0", "clock 0 5 = 0", "clock 0 6 = 100018", "clock 0 7 = OUTSIDE",
-            "clock 0 LEAST = OUTSIDE", "clock 0 MOST = OUTSIDE", "clock -1 0 = UNKNOWN", "clock 1 0 = 20", "clock 1 1 = 95",
-            "clock 1 4 = 1", "clock 2 0 = UNKNOWN", "clock LEAST 0 = UNKNOWN", "clock MOST 0 = UNKNOWN");
+        run("clock: 0 .. 6", "k10 100;k20 95;l1;", 2).go("lie 1 0 8", "round = 0", "clock 0 -1 = OUTSIDE", "clock 0 0 = 10",
+            "clock 0 1 = 100", "clock 0 2 = 100004", "clock 0 3 = 100014", "clock 0 4 = 0", "clock 0 5 = 0",
+            "clock 0 6 = 100018", "clock 0 7 = OUTSIDE", "clock 0 LEAST = OUTSIDE", "clock 0 MOST = OUTSIDE",
+            "clock -1 0 = UNKNOWN", "clock 1 0 = 20", "clock 1 1 = 95", "clock 1 4 = 1", "clock 2 0 = UNKNOWN",
+            "clock LEAST 0 = UNKNOWN", "clock MOST 0 = UNKNOWN");
         run("clock: 7 is the last", clocks(8), 8).go("clock 7 0 = 5", "clock 8 0 = UNKNOWN");
     }
 
     private static void whatIsHeard() {
-        run("heard: 0 .. 4", "k10 100;k20 95;l1;", 2).go("lie 1 0 8", "error 1 0 -3", "heard 1 0 -1 = OUTSIDE", "heard 1 0 0 = 100018",
-            "heard 1 0 1 = 17", "heard 1 0 2 = 10007", "heard 1 0 3 = 1", "heard 1 0 4 = 0", "heard 1 0 5 = OUTSIDE",
-            "heard 1 0 LEAST = OUTSIDE", "heard 1 0 MOST = OUTSIDE");
-        run("heard: from j to i (unlike)", clocks(3), 3).go("heard 0 2 0 = 100005", "heard 2 0 0 = 100005", "heard 0 0 0 = UNKNOWN",
-            "heard 2 2 0 = UNKNOWN", "heard -1 0 0 = UNKNOWN", "heard 3 0 0 = UNKNOWN", "heard 0 -1 0 = UNKNOWN", "heard 0 3 0 = UNKNOWN",
-            "heard 3 3 0 = UNKNOWN", "heard -1 3 0 = UNKNOWN", "heard LEAST 0 0 = UNKNOWN", "heard 0 LEAST 0 = UNKNOWN",
-            "heard MOST 0 0 = UNKNOWN", "heard 0 MOST 0 = UNKNOWN");
+        run("heard: 0 .. 4", "k10 100;k20 95;l1;", 2).go("lie 1 0 8", "error 1 0 -3", "heard 1 0 -1 = OUTSIDE",
+            "heard 1 0 0 = 100018", "heard 1 0 1 = 17", "heard 1 0 2 = 10007", "heard 1 0 3 = 1", "heard 1 0 4 = 0",
+            "heard 1 0 5 = OUTSIDE", "heard 1 0 LEAST = OUTSIDE", "heard 1 0 MOST = OUTSIDE");
+        run("heard: from j to i (unlike)", clocks(3), 3).go("heard 0 2 0 = 100005", "heard 2 0 0 = 100005",
+            "heard 0 0 0 = UNKNOWN", "heard 2 2 0 = UNKNOWN", "heard -1 0 0 = UNKNOWN", "heard 3 0 0 = UNKNOWN",
+            "heard 0 -1 0 = UNKNOWN", "heard 0 3 0 = UNKNOWN", "heard 3 3 0 = UNKNOWN", "heard -1 3 0 = UNKNOWN",
+            "heard LEAST 0 0 = UNKNOWN", "heard 0 LEAST 0 = UNKNOWN", "heard MOST 0 0 = UNKNOWN", "heard 0 MOST 0 = UNKNOWN");
     }
 
     private static void whatIsAskedOfAnAlarm() {
-        run("alarmAt: 0 .. 2", clocks(3), 3).go("alarmAt 0 0 = UNKNOWN", "alarm 2 9 = 0", "alarm 1 5 = 1", "alarmAt -1 0 = UNKNOWN",
-            "alarmAt 0 -1 = OUTSIDE", "alarmAt 0 0 = 2", "alarmAt 0 1 = 9", "alarmAt 0 2 = 0", "alarmAt 0 3 = OUTSIDE",
-            "alarmAt 1 0 = 1", "alarmAt 1 1 = 5", "alarmAt 1 2 = 1", "alarmAt 2 0 = UNKNOWN", "alarmAt LEAST 0 = UNKNOWN",
-            "alarmAt MOST 0 = UNKNOWN", "alarmAt 0 LEAST = OUTSIDE", "alarmAt 0 MOST = OUTSIDE", "undo 1 = 0", "alarmAt 1 0 = UNKNOWN",
-            "alarmAt 0 0 = 2");
+        run("alarmAt: 0 .. 2", clocks(3), 3).go("alarmAt 0 0 = UNKNOWN", "alarm 2 9 = 0", "alarm 1 5 = 1",
+            "alarmAt -1 0 = UNKNOWN", "alarmAt 0 -1 = OUTSIDE", "alarmAt 0 0 = 2", "alarmAt 0 1 = 9", "alarmAt 0 2 = 0",
+            "alarmAt 0 3 = OUTSIDE", "alarmAt 1 0 = 1", "alarmAt 1 1 = 5", "alarmAt 1 2 = 1", "alarmAt 2 0 = UNKNOWN",
+            "alarmAt LEAST 0 = UNKNOWN", "alarmAt MOST 0 = UNKNOWN", "alarmAt 0 LEAST = OUTSIDE", "alarmAt 0 MOST = OUTSIDE",
+            "undo 1 = 0", "alarmAt 1 0 = UNKNOWN", "alarmAt 0 0 = 2");
     }
 
     private static void apart() {
@@ -80,9 +81,11 @@ public final class AskedBoundsTest {
     }
 
     private static void behindBounds() {
-        run("BEHIND n ROUNDS (0 .. 20)", "k0 100;k64 100;", 2).go("behind -1 = OUTSIDE", "behind 0 = 64", "behind 1 = 0", "behind 20 = 0",
-            "behind 21 = OUTSIDE", "behind LEAST = OUTSIDE", "behind MOST = OUTSIDE", "told 15 = 0", "told 7 = 64");
-        run("BEHIND: NONE", "k0 100;k64 100;l0;l1;", 2).go("behind 0 = NONE", "behind 1 = NONE", "behind 20 = NONE", "behind 21 = OUTSIDE");
+        run("BEHIND n ROUNDS (0 .. 20)", "k0 100;k64 100;", 2).go("behind -1 = OUTSIDE", "behind 0 = 64", "behind 1 = 0",
+            "behind 20 = 0", "behind 21 = OUTSIDE", "behind LEAST = OUTSIDE", "behind MOST = OUTSIDE", "told 15 = 0",
+            "told 7 = 64");
+        run("BEHIND: NONE", "k0 100;k64 100;l0;l1;", 2).go("behind 0 = NONE", "behind 1 = NONE", "behind 20 = NONE",
+            "behind 21 = OUTSIDE");
         new Run(due, "BEHIND without CLOCKS").go("behind 0 = NONE", "behind 20 = NONE", "behind -1 = OUTSIDE");
         run("BEHIND, all STRUCK", "k0 100;k64 100;f1;", 2).go("behind 0 = 64", "behind 1 = 64", "behind 20 = 64");
     }
@@ -105,10 +108,11 @@ public final class AskedBoundsTest {
     }
 
     private static void withinBounds() {
-        run("WITHIN b (0 .. 9999)", "k0 100;k9999 100;", 2).go("within -1 = OUTSIDE", "within 0 = 1", "within 9998 = 1", "within 9999 = 0",
-            "within 10000 = OUTSIDE", "within LEAST = OUTSIDE", "within MOST = OUTSIDE", "told 15 = 0", "told 7 = 9999");
-        run("WITHIN: APART is b at most", "k0 100;k64 100;k64 100;k64 100;l3;f1;", 4).go("within 64 = 0", "within 63 = 1", "within 32 = 1",
-            "within 31 = 2", "within 16 = 2", "within 15 = 3");
+        run("WITHIN b (0 .. 9999)", "k0 100;k9999 100;", 2).go("within -1 = OUTSIDE", "within 0 = 1", "within 9998 = 1",
+            "within 9999 = 0", "within 10000 = OUTSIDE", "within LEAST = OUTSIDE", "within MOST = OUTSIDE", "told 15 = 0",
+            "told 7 = 9999");
+        run("WITHIN: APART is b at most", "k0 100;k64 100;k64 100;k64 100;l3;f1;", 4).go("within 64 = 0", "within 63 = 1",
+            "within 32 = 1", "within 31 = 2", "within 16 = 2", "within 15 = 3");
         run("WITHIN: 0 ROUNDS", "k5 100;k5 100;", 2).go("within 0 = 0");
         run("WITHIN: one is never apart", "k5 100;", 1).go("within 0 = 0", "within 9999 = 0");
     }
@@ -122,9 +126,9 @@ public final class AskedBoundsTest {
 
     private static void withinTwentyRounds() {
         // 2099790 is 2 behind 20 rounds and 1 behind 21.
-        halving("WITHIN: ROUNDS 0 .. 20", 210).go("within 4 = 19", "within 3 = 20", "within 2 = 20", "within 1 = NONE", "within 0 = NONE",
-            "within 9999 = 8", "round = 1049895", "within 2 = 19", "within 1 = 20", "within 0 = NONE", "round = 524947", "within 1 = 19",
-            "within 0 = 20");
+        halving("WITHIN: ROUNDS 0 .. 20", 210).go("within 4 = 19", "within 3 = 20", "within 2 = 20", "within 1 = NONE",
+            "within 0 = NONE", "within 9999 = 8", "round = 1049895", "within 2 = 19", "within 1 = 20", "within 0 = NONE",
+            "round = 524947", "within 1 = 19", "within 0 = 20");
     }
 
     private static void worstByTrueOnes() {
@@ -146,20 +150,23 @@ public final class AskedBoundsTest {
         };
         for (int f = 0; f <= 3; f++) {
             for (int lying = 0; lying <= 4; lying++) {
-                run("WORST: F " + f + ", " + lying + " LIE", eight + liars[lying] + "f" + f + ";", 8).go("told 8 = " + worst[f][lying]);
+                run("WORST: F " + f + ", " + lying + " LIE", eight + liars[lying] + "f" + f + ";", 8)
+                    .go("told 8 = " + worst[f][lying]);
             }
         }
-        run("WORST: whatever they tell, not as told", "k0 100;k60 100;k120 100;k9 100;l3;f1;", 4).go("told 8 = 60", "lie 3 0 9999",
-            "lie 3 1 -9999", "lie 3 2 5", "told 8 = 60");
+        run("WORST: whatever they tell, not as told", "k0 100;k60 100;k120 100;k9 100;l3;f1;", 4).go("told 8 = 60",
+            "lie 3 0 9999", "lie 3 1 -9999", "lie 3 2 5", "told 8 = 60");
     }
 
     private static void worstOfStandingLiars() {
-        run("WORST: one that STANDS tells nothing", "k0 100;k60 100;k9 100;l2;", 3).go("told 8 = 1000000", "stand 2 = 1", "told 8 = 0");
+        run("WORST: one that STANDS tells nothing", "k0 100;k60 100;k9 100;l2;", 3).go("told 8 = 1000000", "stand 2 = 1",
+            "told 8 = 0");
     }
 
     private static void worstAllStruck() {
         run("WORST: all STRUCK", "k0 100;k60 100;k9 100;k9 100;l2;l3;f2;", 4).go("told 8 = 60");
-        run("WORST: all STRUCK, one LIES beyond F", "k0 100;k60 100;l0;f1;", 2).go("told 8 = 0", "liar 0 false = 0", "told 8 = 60");
+        run("WORST: all STRUCK, one LIES beyond F", "k0 100;k60 100;l0;f1;", 2).go("told 8 = 0", "liar 0 false = 0",
+            "told 8 = 60");
         run("WORST: one is left", "k0 100;k60 100;k9 100;k9 100;k9 100;l2;l3;l4;f2;", 5).go("told 8 = 1000000");
     }
 
@@ -179,9 +186,9 @@ public final class AskedBoundsTest {
     }
 
     private static void mayLieStanding() {
-        run("MAY LIE of those that do not STAND", clocks(8) + "f3;l0;l1;l2;", 8).go("told 9 = 2", "stand 0 = 1", "told 9 = 2", "stand 7 = 2",
-            "told 9 = 1", "stand 6 = 3", "stand 5 = 4", "told 9 = 1", "stand 4 = 5", "told 9 = 0", "stand 3 = 6", "stand 2 = 7",
-            "told 9 = 0", "stand 1 = 8", "told 9 = NONE");
+        run("MAY LIE of those that do not STAND", clocks(8) + "f3;l0;l1;l2;", 8).go("told 9 = 2", "stand 0 = 1", "told 9 = 2",
+            "stand 7 = 2", "told 9 = 1", "stand 6 = 3", "stand 5 = 4", "told 9 = 1", "stand 4 = 5", "told 9 = 0",
+            "stand 3 = 6", "stand 2 = 7", "told 9 = 0", "stand 1 = 8", "told 9 = NONE");
     }
 
     private static void rank() {
@@ -190,8 +197,9 @@ public final class AskedBoundsTest {
         for (int j = 0; j < 8; j++) {
             x.go("heard " + j + " " + (j == 0 ? 7 : 0) + " 3 = " + places[j]);
         }
-        run("RANK of a LIE", "k10 100;k20 100;k30 100;l2;", 3).go("lie 2 0 -1", "heard 2 0 3 = 0", "lie 2 0 0", "heard 2 0 3 = 1", "lie 2 0 9",
-            "heard 2 0 3 = 1", "lie 2 0 10", "heard 2 0 3 = 2", "heard 1 0 3 = 1", "lie 2 0 11", "heard 2 0 3 = 2");
+        run("RANK of a LIE", "k10 100;k20 100;k30 100;l2;", 3).go("lie 2 0 -1", "heard 2 0 3 = 0", "lie 2 0 0",
+            "heard 2 0 3 = 1", "lie 2 0 9", "heard 2 0 3 = 1", "lie 2 0 10", "heard 2 0 3 = 2", "heard 1 0 3 = 1",
+            "lie 2 0 11", "heard 2 0 3 = 2");
     }
 
     private static void rankOfLikeOnes() {
@@ -210,10 +218,10 @@ public final class AskedBoundsTest {
         run("FARTHEST: -9999", "k0 100;k0 100;k0 100;l1;l2;", 3).go("lie 2 0 -100", "heard 1 0 4 = 0");
         run("FARTHEST: 9999", "k0 100;k0 100;k0 100;l1;l2;", 3).go("lie 2 0 100", "heard 1 0 4 = 19998");
         // The own lie as told does not matter.
-        run("FARTHEST: not by the LIE as told", "k0 100;k0 100;k0 100;l1;l2;", 3).go("lie 2 0 100", "lie 1 0 -9999", "heard 1 0 4 = 19998",
-            "heard 1 0 2 = 0");
-        run("FARTHEST: from AIM, not from VALUE", "k0 100;k0 100;k0 100;l1;l2;", 3).go("lie 2 0 200", "round = 0", "clock 0 3 = 100100",
-            "lie 2 0 -100", "heard 1 0 4 = 0", "lie 2 0 100", "heard 1 0 4 = 19998");
+        run("FARTHEST: not by the LIE as told", "k0 100;k0 100;k0 100;l1;l2;", 3).go("lie 2 0 100", "lie 1 0 -9999",
+            "heard 1 0 4 = 19998", "heard 1 0 2 = 0");
+        run("FARTHEST: from AIM, not from VALUE", "k0 100;k0 100;k0 100;l1;l2;", 3).go("lie 2 0 200", "round = 0",
+            "clock 0 3 = 100100", "lie 2 0 -100", "heard 1 0 4 = 0", "lie 2 0 100", "heard 1 0 4 = 19998");
     }
 
     private static void farthestOfLikeOnes() {
@@ -221,10 +229,11 @@ public final class AskedBoundsTest {
         run("FARTHEST: rounded down", "k0 100;k0 100;l1;", 2).go("heard 1 0 4 = 0");
         run("FARTHEST: of all three the first", "k0 100;k0 100;k0 100;l2;f1;", 3).go("heard 2 0 4 = 0");
         // By -9999 it goes to -4999 (from -9998 or -9997), by 9999 to 4999; from -9996 it is one less.
-        run("FARTHEST: of -9999 and 9999 the first", "k0 100;k0 100;k0 100;l1;l2;", 3).go("lie 2 0 1", "heard 1 0 4 = 0", "lie 2 0 2",
-            "heard 1 0 4 = 0", "lie 2 0 3", "heard 1 0 4 = 19998");
+        run("FARTHEST: of -9999 and 9999 the first", "k0 100;k0 100;k0 100;l1;l2;", 3).go("lie 2 0 1", "heard 1 0 4 = 0",
+            "lie 2 0 2", "heard 1 0 4 = 0", "lie 2 0 3", "heard 1 0 4 = 19998");
         // By -9999 it stays; by 0 and by 9999 it goes to 4999, half of the other's lie.
-        run("FARTHEST: of 0 and 9999 the first", "k0 100;k9000 100;k0 100;k0 100;l2;l3;", 4).go("lie 3 0 9999", "error 1 0 20", "heard 2 0 4 = 9999");
+        run("FARTHEST: of 0 and 9999 the first", "k0 100;k9000 100;k0 100;k0 100;l2;l3;", 4).go("lie 3 0 9999",
+            "error 1 0 20", "heard 2 0 4 = 9999");
     }
 
     private static void farthestAllStruck() {
@@ -233,9 +242,9 @@ public final class AskedBoundsTest {
     }
 
     private static void farthestNone() {
-        run("FARTHEST: NONE: i LIES or STANDS", "k0 100;k100 100;k0 100;l2;", 3).go("heard 2 0 4 = 19998", "liar 0 true = 2", "heard 2 0 4 = NONE",
-            "stand 0 = 1", "heard 2 0 4 = NONE", "liar 0 false = 1", "heard 2 0 4 = NONE");
-        run("FARTHEST: NONE: j does not LIE, or STANDS", "k0 100;k100 100;k0 100;l2;", 3).go("heard 1 0 4 = NONE", "heard 2 0 4 = 19998",
-            "stand 2 = 1", "heard 2 0 4 = NONE", "liar 2 false = 0", "heard 2 0 4 = NONE");
+        run("FARTHEST: NONE: i LIES or STANDS", "k0 100;k100 100;k0 100;l2;", 3).go("heard 2 0 4 = 19998", "liar 0 true = 2",
+            "heard 2 0 4 = NONE", "stand 0 = 1", "heard 2 0 4 = NONE", "liar 0 false = 1", "heard 2 0 4 = NONE");
+        run("FARTHEST: NONE: j does not LIE, or STANDS", "k0 100;k100 100;k0 100;l2;", 3).go("heard 1 0 4 = NONE",
+            "heard 2 0 4 = 19998", "stand 2 = 1", "heard 2 0 4 = NONE", "liar 2 false = 0", "heard 2 0 4 = NONE");
     }
 }

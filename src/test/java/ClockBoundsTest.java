@@ -57,17 +57,17 @@ public final class ClockBoundsTest {
     }
 
     private static void setsOfEight() {
-        run("A SET is a whole number, bit k for k", clocks(8), 8).go("told 6 = 255", "liar 7 true = 1", "told 4 = 128", "told 6 = 127",
-            "stand 7 = 1", "told 5 = 128", "liar 0 true = 2", "told 4 = 129", "stand 0 = 2", "told 5 = 129", "told 6 = 126",
-            "clock 7 4 = 1", "clock 7 5 = 1", "clock 6 4 = 0", "clock 6 5 = 0");
+        run("A SET is a whole number, bit k for k", clocks(8), 8).go("told 6 = 255", "liar 7 true = 1", "told 4 = 128",
+            "told 6 = 127", "stand 7 = 1", "told 5 = 128", "liar 0 true = 2", "told 4 = 129", "stand 0 = 2", "told 5 = 129",
+            "told 6 = 126", "clock 7 4 = 1", "clock 7 5 = 1", "clock 6 4 = 0", "clock 6 5 = 0");
     }
 
     private static void stepToEitherSide() {
         // Both aim at 10: the one is 10 behind it, the other 10 beyond it.
         String text = "k0 100;k20 100;";
-        run("STEP at most to either side: less", text + "s9;", 2).go("round = 0", "tick 1", "clock 0 0 = 109", "clock 0 2 = 100001",
-            "clock 1 0 = 111", "clock 1 2 = 99999", "clock 0 3 = 100110", "tick 1", "clock 0 0 = 210", "clock 0 2 = 100000",
-            "clock 1 0 = 210", "clock 1 2 = 100000", "tick 1", "clock 0 0 = 310", "clock 1 0 = 310");
+        run("STEP at most to either side: less", text + "s9;", 2).go("round = 0", "tick 1", "clock 0 0 = 109",
+            "clock 0 2 = 100001", "clock 1 0 = 111", "clock 1 2 = 99999", "clock 0 3 = 100110", "tick 1", "clock 0 0 = 210",
+            "clock 0 2 = 100000", "clock 1 0 = 210", "clock 1 2 = 100000", "tick 1", "clock 0 0 = 310", "clock 1 0 = 310");
         run("STEP at most to either side: as much", text + "s10;", 2).go("round = 0", "tick 1", "clock 0 0 = 110",
             "clock 0 2 = 100000", "clock 1 0 = 110", "clock 1 2 = 100000");
         run("STEP at most to either side: more", text + "s11;", 2).go("round = 0", "tick 1", "clock 0 0 = 110",
@@ -87,29 +87,30 @@ public final class ClockBoundsTest {
     }
 
     private static void standingDoesNotTick() {
-        run("each CLOCK that does not STAND", "k0 100;k20 100;l1;", 2).go("lie 1 0 40", "round = 0", "clock 0 2 = 100020", "stand 0 = 1",
-            "tick 1 = 0", "clock 0 0 = 0", "clock 0 2 = 100020", "clock 0 3 = 100020", "clock 1 0 = 120", "stand 1 = 2", "tick 20 = 0",
-            "clock 1 0 = 120", "told 12 = 21");
+        run("each CLOCK that does not STAND", "k0 100;k20 100;l1;", 2).go("lie 1 0 40", "round = 0", "clock 0 2 = 100020",
+            "stand 0 = 1", "tick 1 = 0", "clock 0 0 = 0", "clock 0 2 = 100020", "clock 0 3 = 100020", "clock 1 0 = 120",
+            "stand 1 = 2", "tick 20 = 0", "clock 1 0 = 120", "told 12 = 21");
     }
 
     private static void ticksAtLeastAndMost() {
-        run("n TICKS (1 .. 20; one deed)", "k0 100;", 1).go("tick 0 = OUTSIDE", "tick 1 = 0", "clock 0 0 = 100", "told 12 = 1",
-            "told 15 = 1", "tick 20 = 0", "clock 0 0 = 2100", "told 12 = 21", "told 15 = 2", "tick 21 = OUTSIDE", "tick -1 = OUTSIDE",
-            "tick LEAST = OUTSIDE", "tick MOST = OUTSIDE", "told 12 = 21", "told 15 = 2", "clock 0 0 = 2100");
+        run("n TICKS (1 .. 20; one deed)", "k0 100;", 1).go("tick 0 = OUTSIDE", "tick 1 = 0", "clock 0 0 = 100",
+            "told 12 = 1", "told 15 = 1", "tick 20 = 0", "clock 0 0 = 2100", "told 12 = 21", "told 15 = 2",
+            "tick 21 = OUTSIDE", "tick -1 = OUTSIDE", "tick LEAST = OUTSIDE", "tick MOST = OUTSIDE", "told 12 = 21",
+            "told 15 = 2", "clock 0 0 = 2100");
     }
 
     private static void errorBounds() {
-        run("ERROR -20 .. 20", "k0 100;k50 100;", 2).go("error 1 0 -21 = OUTSIDE", "heard 1 0 1 = 20", "error 1 0 -20 = 20", "heard 1 0 1 = 0",
-            "heard 1 0 0 = 100030", "error 1 0 20 = 0", "heard 1 0 1 = 40", "heard 1 0 0 = 100070", "error 1 0 21 = OUTSIDE",
-            "error 1 0 LEAST = OUTSIDE", "error 1 0 MOST = OUTSIDE", "error 1 0 -1 = 40", "heard 1 0 0 = 100049", "heard 0 1 1 = 20",
-            "told 15 = 3");
+        run("ERROR -20 .. 20", "k0 100;k50 100;", 2).go("error 1 0 -21 = OUTSIDE", "heard 1 0 1 = 20", "error 1 0 -20 = 20",
+            "heard 1 0 1 = 0", "heard 1 0 0 = 100030", "error 1 0 20 = 0", "heard 1 0 1 = 40", "heard 1 0 0 = 100070",
+            "error 1 0 21 = OUTSIDE", "error 1 0 LEAST = OUTSIDE", "error 1 0 MOST = OUTSIDE", "error 1 0 -1 = 40",
+            "heard 1 0 0 = 100049", "heard 0 1 1 = 20", "told 15 = 3");
     }
 
     private static void lieBounds() {
-        run("LIE -9999 .. 9999", "k0 100;k50 100;l1;", 2).go("lie 1 0 -10000 = OUTSIDE", "heard 1 0 2 = 9999", "lie 1 0 -9999 = 9999",
-            "heard 1 0 2 = 0", "heard 1 0 0 = 90001", "lie 1 0 9999 = 0", "heard 1 0 2 = 19998", "heard 1 0 0 = 109999",
-            "lie 1 0 10000 = OUTSIDE", "lie 1 0 LEAST = OUTSIDE", "lie 1 0 MOST = OUTSIDE", "lie 1 0 -1 = 19998", "heard 1 0 0 = 99999",
-            "heard 0 1 2 = 9999", "told 15 = 3");
+        run("LIE -9999 .. 9999", "k0 100;k50 100;l1;", 2).go("lie 1 0 -10000 = OUTSIDE", "heard 1 0 2 = 9999",
+            "lie 1 0 -9999 = 9999", "heard 1 0 2 = 0", "heard 1 0 0 = 90001", "lie 1 0 9999 = 0", "heard 1 0 2 = 19998",
+            "heard 1 0 0 = 109999", "lie 1 0 10000 = OUTSIDE", "lie 1 0 LEAST = OUTSIDE", "lie 1 0 MOST = OUTSIDE",
+            "lie 1 0 -1 = 19998", "heard 1 0 0 = 99999", "heard 0 1 2 = 9999", "told 15 = 3");
     }
 
     /** Of eight clocks every way has its own lie and error. */
@@ -148,8 +149,8 @@ public final class ClockBoundsTest {
     }
 
     private static void heardByEachKind() {
-        run("HEARD by one that LIES, that STANDS", "k100 100;k200 100;k300 100;l1;", 3).go("lie 1 2 -50", "error 0 1 -20", "stand 2 = 1",
-            "heard 0 1 0 = 100080", "heard 2 1 0 = 100200", "heard 0 2 0 = 100100", "heard 1 2 0 = 100250");
+        run("HEARD by one that LIES, that STANDS", "k100 100;k200 100;k300 100;l1;", 3).go("lie 1 2 -50", "error 0 1 -20",
+            "stand 2 = 1", "heard 0 1 0 = 100080", "heard 2 1 0 = 100200", "heard 0 2 0 = 100100", "heard 1 2 0 = 100250");
         run("AIM, not VALUE, is HEARD", "k100 100;k200 100;k300 100;l2;", 3).go("lie 2 0 1000", "lie 2 1 1000", "round",
             "clock 0 3 = 100600", "clock 1 3 = 100650", "heard 1 0 0 = 100650", "heard 0 1 0 = 100600", "heard 2 0 0 = 101600",
             "clock 0 0 = 100", "clock 1 0 = 200");
@@ -163,8 +164,9 @@ public final class ClockBoundsTest {
     }
 
     private static void onlyTrueOnesMeet() {
-        run("all CLOCKS that neither LIE nor STAND", "k0 100;k100 100;k200 100;k300 100;l3;", 4).go("stand 2 = 1", "round = 0",
-            "clock 0 2 = 100050", "clock 1 2 = 99950", "clock 2 2 = 100000", "clock 3 2 = 100000", "clock 0 0 = 0", "told 12 = 0");
+        run("all CLOCKS that neither LIE nor STAND", "k0 100;k100 100;k200 100;k300 100;l3;", 4).go("stand 2 = 1",
+            "round = 0", "clock 0 2 = 100050", "clock 1 2 = 99950", "clock 2 2 = 100000", "clock 3 2 = 100000",
+            "clock 0 0 = 0", "told 12 = 0");
     }
 
     private static void allStruck() {
@@ -177,12 +179,13 @@ public final class ClockBoundsTest {
         for (int f = 1; f <= 3; f++) {
             for (int n = 1; n <= 2 * f; n++) {
                 String far = "k100 100;" + "k0 100;".repeat(n - 1);
-                run(sentence + ", " + n + " of F " + f, far + "f" + f + ";", n).go("clock 0 6 = NONE", "round = " + (n > 1 ? 100 : 0),
-                    "clock 0 2 = 100000", "told 15 = 1");
+                run(sentence + ", " + n + " of F " + f, far + "f" + f + ";", n).go("clock 0 6 = NONE",
+                    "round = " + (n > 1 ? 100 : 0), "clock 0 2 = 100000", "told 15 = 1");
             }
         }
         // Those that stand are heard, too, so that it is the number of all that counts.
-        run(sentence + ", of all", "k100 100;k0 100;k30 100;f1;", 3).go("stand 1 = 1", "stand 2 = 2", "clock 0 6 = 100100", "round = 0");
+        run(sentence + ", of all", "k100 100;k0 100;k30 100;f1;", 3).go("stand 1 = 1", "stand 2 = 2", "clock 0 6 = 100100",
+            "round = 0");
     }
 
     private static void struckOnBothSides() {
@@ -214,7 +217,8 @@ public final class ClockBoundsTest {
             int n = 2 * f + 2;
             // The last joins; it hears 2 F and 1, and 2 F when one more stands.
             run(sentence + ", F " + f, clocks(n) + "f" + f + ";", n).go("stand " + (n - 1) + " = 1", "stand 0 = 2",
-                "join " + (n - 1) + " = NOT", "told 5 = " + (1 + (1 << n - 1)), "undo 1 = 0", "join " + (n - 1) + " = 5", "told 5 = 0");
+                "join " + (n - 1) + " = NOT", "told 5 = " + (1 + (1 << n - 1)), "undo 1 = 0", "join " + (n - 1) + " = 5",
+                "told 5 = 0");
         }
         run(sentence + ", those that LIE are HEARD", clocks(4) + "f1;l0;l1;l2;", 4).go("stand 3 = 1", "join 3 = 5");
         run(sentence + ", not itself", clocks(3) + "f1;", 3).go("stand 0 = 1", "join 0 = NOT");
@@ -228,7 +232,8 @@ public final class ClockBoundsTest {
         run("JOINED: F lowest and highest STRUCK", "k0 100;k10 100;k30 100;k9000 100;f1;", 4).go("stand 3 = 1", "join 3 = 10");
         run("JOINED: one that LIES goes on to lie", "k100 100;k200 100;l1;", 2).go("stand 1 = 1", "join 1 = 100", "clock 1 4 = 1",
             "clock 1 5 = 0", "told 6 = 1");
-        run("NOT: it does not STAND", clocks(2), 2).go("join 0 = NOT", "stand 0 = 1", "join 0 = 5", "join 0 = NOT", "told 15 = 2");
+        run("NOT: it does not STAND", clocks(2), 2).go("join 0 = NOT", "stand 0 = 1", "join 0 = 5", "join 0 = NOT",
+            "told 15 = 2");
     }
 
     private static void joinedAimsAtNothingMore() {
@@ -256,7 +261,7 @@ public final class ClockBoundsTest {
         for (int c = 0; c < 8; c++) {
             x.go("stand " + c + " = " + (c + 1), "stand " + c + " = NOT");
         }
-        x.go("told 5 = 255", "told 15 = 8", "stand 8 = UNKNOWN", "stand -1 = UNKNOWN", "stand LEAST = UNKNOWN", "stand MOST = UNKNOWN",
-            "join 0 = NOT", "round = NONE", "tick 20 = 0", "clock 7 0 = 5");
+        x.go("told 5 = 255", "told 15 = 8", "stand 8 = UNKNOWN", "stand -1 = UNKNOWN", "stand LEAST = UNKNOWN",
+            "stand MOST = UNKNOWN", "join 0 = NOT", "round = NONE", "tick 20 = 0", "clock 7 0 = 5");
     }
 }

@@ -192,12 +192,16 @@ public final class TextBoundsTest {
     private static void blanksInEveryGap() {
         String text = "k12 100;l0;f1;s20;";
         for (int at = 0; at <= text.length(); at++) {
-            boolean withinNumber = at > 0 && at < text.length() && Character.isDigit(text.charAt(at - 1)) && Character.isDigit(text.charAt(at));
+            boolean withinNumber = isFigure(text, at - 1) && isFigure(text, at);
             for (int n = 1; n <= 3 && !withinNumber; n++) {
                 good("blanks anywhere", text.substring(0, at) + blanks(n) + text.substring(at), 1)
                     .go("clock 0 0 = 12", "clock 0 1 = 100", "told 4 = 1", "told 1 = 1", "told 2 = 20");
             }
         }
+    }
+
+    private static boolean isFigure(String text, int at) {
+        return at >= 0 && at < text.length() && Character.isDigit(text.charAt(at));
     }
 
     private static void onlyThirtyTwoIsBlank() {
@@ -377,8 +381,9 @@ public final class TextBoundsTest {
 
     /** What asking works with must not be found again in the next text. */
     private static void textBehindAsking() {
-        rich().go("behind 20", "within 0", "told 8", "heard 1 0 4").text("k5 100;k9 100;k2 100;", 3).go("heard 1 0 2 = 9999", "heard 0 2 1 = 20",
-            "clock 0 2 = 100000", "told 2 = 10", "told 4 = 0", "told 5 = 0", "told 10 = 0", "told 11 = 0", "told 12 = 0", "behind 1 = 0");
+        rich().go("behind 20", "within 0", "told 8", "heard 1 0 4").text("k5 100;k9 100;k2 100;", 3).go("heard 1 0 2 = 9999",
+            "heard 0 2 1 = 20", "clock 0 2 = 100000", "told 2 = 10", "told 4 = 0", "told 5 = 0", "told 10 = 0", "told 11 = 0",
+            "told 12 = 0", "behind 1 = 0");
     }
 
     /** Against the other reading of the text, so that no place or letter is left out. */

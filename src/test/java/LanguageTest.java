@@ -8,6 +8,7 @@ import java.nio.file.Path;
 import java.util.Random;
 import java.util.Set;
 import java.util.TreeSet;
+import java.util.regex.Matcher;
 import java.util.regex.Pattern;
 
 /** What can be tested of LANGUAGE.md: the face, words that are not allowed, and that no call ever throws. */
@@ -21,6 +22,8 @@ public final class LanguageTest {
         face();
         insideClasses();
         words();
+        library();
+        lengths();
         neverThrows();
         due.end();
     }
@@ -69,9 +72,17 @@ public final class LanguageTest {
         }
     }
 
+    private static String source() throws IOException {
+        return Files.readString(Path.of("src/main/java/LiarClocks.java"));
+    }
+
+    private static String withoutComments(String source) {
+        return source.replaceAll("(?s)/\\*.*?\\*/", " ").replaceAll("//[^\n]*", " ");
+    }
+
     private static void words() throws IOException {
-        String source = Files.readString(Path.of("src/main/java/LiarClocks.java"));
-        String code = source.replaceAll("(?s)/\\*.*?\\*/", " ").replaceAll("//[^\n]*", " ");
+        String source = source();
+        String code = withoutComments(source);
         String[] not = {"\\bthrow\\b", "\\bthrows\\b", "\\btry\\b", "\\bcatch\\b", "\\bsynchronized\\b", "\\bassert\\b",
             "\\bpackage\\b", "->", "::", "Exact\\b", "\\bObject\\b", "\\bRandom\\b", "\\bSystem\\.(?!arraycopy\\b)", "\\bThread\\b",
             "\\bdouble\\b", "\\bfloat\\b", "\\bvar\\b", "\\bhashCode\\b", "\\bequals\\b", "\\btoString\\b", "@", "_VALUE\\b(?<!MOST_ALARM_VALUE)"};
@@ -81,6 +92,37 @@ public final class LanguageTest {
         for (int k = 0; k < source.length(); k++) {
             due.holds("plain signs alone", source.charAt(k) < 128);
         }
+    }
+
+    /** Rule 4 lists what may be used; of that the class needs only these. */
+    private static void library() throws IOException {
+        Set<String> allowed = Set.of("Math.max", "Math.min", "Math.abs", "Math.floorDiv", "Math.floorMod", "Integer.bitCount",
+            "Arrays.fill", "System.arraycopy", "State.way", "Text.NO_FAULT");
+        String code = withoutComments(source());
+        Matcher used = Pattern.compile("\\b([A-Z]\\w*\\.\\w+)").matcher(code.replace("import java.util.Arrays;", ""));
+        while (used.find()) {
+            due.holds("in the library's list, or our own: " + used.group(1), allowed.contains(used.group(1)));
+        }
+        due.holds("one import", code.split("\\bimport\\b", -1).length == 2);
+    }
+
+    /** A method begins with a line that ends in ") {" and ends with a brace as far to the right. */
+    private static void lengths() throws IOException {
+        String[] lines = source().split("\n");
+        Pattern head = Pattern.compile("( {4}| {8})(public|private) .*\\) \\{");
+        int methods = 0;
+        for (int from = 0; from < lines.length; from++) {
+            Matcher m = head.matcher(lines[from]);
+            if (m.matches()) {
+                int to = from;
+                while (to < lines.length && !lines[to].equals(m.group(1) + "}")) {
+                    to++;
+                }
+                due.holds("some sixty lines: " + lines[from].trim(), to - from < 60);
+                methods++;
+            }
+        }
+        due.holds("methods were found: " + methods, methods > FACE.size());
     }
 
     /** Any arguments in any state, far beyond 512 calls: what is answered then is free, but nothing may throw. */
